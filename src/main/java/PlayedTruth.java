@@ -12,7 +12,8 @@ public final class PlayedTruth {
   private static final int MOST_SCENES = 6, MOST_PLACES = 6, MOST_HOUSES = 16, MOST_PLANNED = 4;
   private static final int MOST_TRUTH = 99, MOST_PRETTY = 9, MOST_LIGHT = 9, MOST_HOUSE = 15, MOST_END = 16;
   private static final int MOST_SUM = 999, MOST_LOTS = 40, MOST_GOING = 20;
-  private static final int MEND = 0, KEEP = 1, TRIM = 2;
+  /** What a scene's will can be; to keep, 1, does nothing. */
+  private static final int MEND = 0, TRIM = 2;
   private static final int ROW_SIZE = 3;
 
   private final Stage stage = new Stage();
@@ -299,7 +300,6 @@ public final class PlayedTruth {
     if (!isIn(k, 0, Strangers.MOST_NIGHTS) || !isIn(asked, 0, 1)) return BAD;
     int top = asked == 0 ? MOST_TRUTH : MOST_SUM;
     if (!isIn(least, 0, top) || !isIn(most, 0, top) || most < least) return BAD;
-    if (strangers.count >= Strangers.MOST_REPORTS) return FULL;
     return strangers.add(k, asked, least, most);
   }
 
@@ -782,7 +782,9 @@ public final class PlayedTruth {
         } else if (i + 2 < to) {
           int left = steps[i + 1] < FIRST_FACT ? steps[i + 1] : facts[steps[i + 1] - FIRST_FACT];
           int right = steps[i + 2] < FIRST_FACT ? steps[i + 2] : facts[steps[i + 2] - FIRST_FACT];
-          boolean isSo = step == RuleReader.LESS ? left < right : step == RuleReader.MORE ? left > right : left == right;
+          boolean isSo = left == right;
+          if (step == RuleReader.LESS) isSo = left < right;
+          if (step == RuleReader.MORE) isSo = left > right;
           pile = pile << 1 | (isSo ? 1 : 0);
           i += 2;
         }
@@ -798,7 +800,8 @@ public final class PlayedTruth {
     /** A name's token is its place among these. */
     private static final String WORDS =
         "scene trial duet sunset crowd match mend keep trim if not and or night truth pretty rail number ";
-    private static final int LAST_KIND = 5, FIRST_DO = 6, LAST_DO = 8, IF = 9, FIRST_FACT_WORD = 13, LAST_FACT_WORD = 17;
+    private static final int LAST_KIND = 5, FIRST_DO = 6, LAST_DO = 8, IF = 9;
+    private static final int FIRST_FACT_WORD = 13, LAST_FACT_WORD = 17;
     static final int NOT = 10, AND = 11, OR = 12;
     static final int LESS = 20, EQUAL = 21, MORE = 22;
     private static final int OPEN = 23, CLOSE = 24, SEMICOLON = 25, NUMBER = 26, END = 27, WRONG = 28;

@@ -75,7 +75,7 @@ public final class RulesTest {
 
   /** In each text the token at ! is the first that can't stand there. */
   private static void faults() {
-    String[] texts = {"!c", "!keep", "!;", "!1", "!if", "!Scene keep;", "!scenes keep;", "!scen keep;",
+    String[] texts = {"!c", "!keep", "!;", "!1", "!if", "!Scene keep;", "!scenes keep;", "!scenez keep;", "!zscene keep;", "!ascene keep;", "!scen keep;",
         "scene !scene", "scene !;", "scene !1<2 keep;", "scene !kee;", "scene !keeps;", "scene keep !keep", "scene keep !if 1=1;",
         "scene if !keep;", "scene if !<1 keep;", "scene if 1 !1 keep;", "scene if 1 !keep;", "scene if 1 < !keep;",
         "scene if 1 < !not 2 keep;", "scene if 1 < !(2) keep;", "scene if 1 < 2 !3 keep;", "scene if 1 < 2 !< 3 keep;",
