@@ -780,8 +780,10 @@ public final class PlayedTruth {
         } else if (step == RuleReader.OR) {
           pile = pile >>> 1 | top;
         } else if (i + 2 < to) {
-          int left = steps[i + 1] < FIRST_FACT ? steps[i + 1] : facts[steps[i + 1] - FIRST_FACT];
-          int right = steps[i + 2] < FIRST_FACT ? steps[i + 2] : facts[steps[i + 2] - FIRST_FACT];
+          int leftFact = steps[i + 1] - FIRST_FACT;
+          int rightFact = steps[i + 2] - FIRST_FACT;
+          int left = leftFact >= 0 && leftFact < FACTS ? facts[leftFact] : steps[i + 1];
+          int right = rightFact >= 0 && rightFact < FACTS ? facts[rightFact] : steps[i + 2];
           boolean isSo = left == right;
           if (step == RuleReader.LESS) isSo = left < right;
           if (step == RuleReader.MORE) isSo = left > right;

@@ -7,10 +7,10 @@ import java.util.List;
 import java.util.TreeSet;
 
 /**
- * What the tests of the boundary cases share. Each case stands behind says(), which names the promise and quotes the
+ * What the tests of the boundary cases, which extend it, share. Each case stands behind says(), which names the promise and quotes the
  * sentence of the document that the case is of; a quotation that the document doesn't have there is wrong itself.
  */
-final class Bounds {
+abstract class Bounds {
   interface Call {
     int on(PlayedTruth p);
   }
@@ -28,9 +28,6 @@ final class Bounds {
   private static final String DOC = document();
   private static final TreeSet<Integer> NAMED = new TreeSet<>();
   private static String sentence = "";
-
-  private Bounds() {
-  }
 
   private static String document() {
     try {

@@ -1,9 +1,5 @@
 /** The boundary cases of promises 41 to 52: sheets, shelves, acts and their trace, what is kept. */
-public final class HostBoundsTest {
-  private static final int BAD = Bounds.BAD, NONE = Bounds.NONE, STATE = Bounds.STATE;
-  private static final int NOTHING = Bounds.NOTHING, OUTSIDE = Bounds.OUTSIDE, SORT = Bounds.SORT, SIZE = Bounds.SIZE;
-  private static final int PARTED = Bounds.PARTED;
-  private static final int LEAST = Bounds.LEAST, MOST = Bounds.MOST;
+public final class HostBoundsTest extends Bounds {
   private static final int[] NO_SHEET = {-1, 4, 5, LEAST, MOST};
 
   public static void main(String[] args) {
@@ -37,24 +33,9 @@ public final class HostBoundsTest {
     many();
     keep();
     keptAndNot();
+    keptReports();
     again();
-    Bounds.end("HostBoundsTest", Bounds.promises(41, 52));
-  }
-
-  private static void says(int promise, String words) {
-    Bounds.says(promise, words);
-  }
-
-  private static void due(String call, int got, int want) {
-    Bounds.due(call, got, want);
-  }
-
-  private static void refused(String call, int want, Bounds.Setting setting, Bounds.Call made) {
-    Bounds.refused(call, want, setting, made);
-  }
-
-  private static void refusedEverywhere(String call, int want, Bounds.Call made) {
-    Bounds.refusedEverywhere(call, want, made);
+    end("HostBoundsTest", promises(41, 52));
   }
 
   /** Bytes on a sheet. */
@@ -114,7 +95,7 @@ public final class HostBoundsTest {
     says(41, "or missing (sort -1; n counts nothing then): 1.");
     int[] sizes = {0, 1, 40, 41, -1, LEAST, MOST};
     for (int n : sizes) {
-      PlayedTruth p = Bounds.usual();
+      PlayedTruth p = usual();
       due("sheet(0, -1, " + n + ")", p.sheet(0, -1, n), 1);
       due("it is missing", p.item(0, 0, 0), NOTHING);
       due("a missing one", p.sheet(3, -1, n), 1);
@@ -161,15 +142,15 @@ public final class HostBoundsTest {
     int[] behind40 = {-1, 40, 41};
     for (int i : behind40) refused("write(3, " + i + ", 1) of forty", OUTSIDE, Bounds::full, p -> p.write(3, i, 1));
     refused("write(0, 0, 1) of none", OUTSIDE, () -> {
-      PlayedTruth p = Bounds.usual();
+      PlayedTruth p = usual();
       p.sheet(0, 0, 0);
       return p;
     }, p -> p.write(0, 0, 1));
     int[] any = {0, -1, 40, LEAST, MOST};
     for (int i : any) refused("write(3, " + i + ", 1), missing", NOTHING, Bounds::usual, p -> p.write(3, i, 1));
-    due("the last of four", Bounds.usual().write(0, 3, 1), 1);
-    due("the first of four", Bounds.usual().write(0, 0, 1), 1);
-    due("the last of forty", Bounds.full().write(3, 39, 1), 1);
+    due("the last of four", usual().write(0, 3, 1), 1);
+    due("the first of four", usual().write(0, 0, 1), 1);
+    due("the last of forty", full().write(3, 39, 1), 1);
   }
 
   private static void itemOutside() {
@@ -348,8 +329,8 @@ public final class HostBoundsTest {
     int[] outside = {-1, 4, 5, 40, LEAST, MOST, MOST - 1, LEAST + 1};
     for (int i : outside) refused("wouldBe(0, " + i + ", 20)", OUTSIDE, Bounds::usual, p -> p.wouldBe(0, i, 20));
     // Items 2, 5, 0, 77: the first three are acts of five scenes.
-    refused("three acts", Bounds.usual().wouldBe(0, 0, 3), Bounds::usual, p -> p.wouldBe(0, 0, 3));
-    due("they are worth something", Bounds.usual().wouldBe(0, 0, 3) > 0 ? 1 : 0, 1);
+    refused("three acts", usual().wouldBe(0, 0, 3), Bounds::usual, p -> p.wouldBe(0, 0, 3));
+    due("they are worth something", usual().wouldBe(0, 0, 3) > 0 ? 1 : 0, 1);
     refused("the fourth is none", STATE, Bounds::usual, p -> p.wouldBe(0, 0, 4));
     refused("the fourth is none, ahead of one outside", STATE, Bounds::usual, p -> p.wouldBe(0, 0, 5));
     refused("one outside, ahead of none", OUTSIDE, Bounds::usual, p -> p.wouldBe(0, -1, 5));
@@ -407,7 +388,7 @@ public final class HostBoundsTest {
   private static void shelfHolds() {
     says(46, "A SHELF holds SCENE n (what 0), the row of SHEET n (1; nothing, if missing), nothing (2): 1.");
     for (int shelf = 0; shelf < 4; shelf++) {
-      PlayedTruth p = Bounds.full();
+      PlayedTruth p = full();
       due("the first scene", p.shelf(shelf, 0, 0), 1);
       due("taken", p.taken(shelf, 0), 0);
       due("the last scene", p.shelf(shelf, 0, 5), 1);
@@ -426,7 +407,7 @@ public final class HostBoundsTest {
       p.sheet(0, -1, 0);
       due("a missing sheet", p.shelf(shelf, 1, 0), 1);
       due("is nothing", p.taken(shelf, 0), NOTHING);
-      due("the next shelf stays", p.taken((shelf + 1) % 4, 0), Bounds.full().taken((shelf + 1) % 4, 0));
+      due("the next shelf stays", p.taken((shelf + 1) % 4, 0), full().taken((shelf + 1) % 4, 0));
     }
     PlayedTruth p = new PlayedTruth();
     p.sheet(0, 0, 0);
@@ -597,6 +578,14 @@ public final class HostBoundsTest {
     says(48, "numbers of the bodies that ran in the latest act(), as they began (left first)");
     due("parted", p.act(3, 3, 1), PARTED);
     traceIs(p, 13, 11, 10, 40, 12);
+    PlayedTruth sunset = one(3, 0, 3);
+    due("a sunset exits: it doesn't come to speak again", sunset.act(3, 3, 1), PARTED);
+    traceIs(sunset, 51, 13, 30, 11, 50, 10, 12);
+    PlayedTruth match = one(5, 0, 3);
+    due("a match halves: it doesn't come to enter", match.act(3, 2, 1), PARTED);
+    traceIs(match, 61, 40, 12);
+    due("a match exits", match.act(3, 3, 1), PARTED);
+    traceIs(match, 13, 60, 11, 10, 61, 40, 12);
   }
 
   private static void actByHeldNumbers() {
@@ -650,8 +639,8 @@ public final class HostBoundsTest {
     for (int what : none) refusedEverywhere("many(" + what + ")", BAD, p -> p.many(what));
     says(50, "what = 0 SCENES, 1 RULES, 2 those SETTLED, 3 REPORTS, 4 ROWS, 5 bytes of THE TAPE, 6 bodies of THE TRACE");
     int[] full = {6, 8, 2, 6, 4, 200, 11};
-    for (int what = 0; what <= 6; what++) due("full: many(" + what + ")", Bounds.full().many(what), full[what]);
-    PlayedTruth p = Bounds.full();
+    for (int what = 0; what <= 6; what++) due("full: many(" + what + ")", full().many(what), full[what]);
+    PlayedTruth p = full();
     for (int k = 0; k < 6; k++) p.change(k, 4, 1);
     due("all are settled", p.many(2), 6);
     PlayedTruth empty = new PlayedTruth();
@@ -663,8 +652,8 @@ public final class HostBoundsTest {
   private static void keep() {
     says(51, "All but THE TAPE, ROWS, SHEETS, SHELVES, THE TRACE is kept: 1.");
     due("keep of a new one", new PlayedTruth().keep(), 1);
-    due("keep of a full one", Bounds.full().keep(), 1);
-    due("keep of one that is over", Bounds.over().keep(), 1);
+    due("keep of a full one", full().keep(), 1);
+    due("keep of one that is over", over().keep(), 1);
     PlayedTruth p = new PlayedTruth();
     p.keep();
     for (int k = 0; k < 6; k++) p.scene(1, 99, 9, 5);
@@ -672,8 +661,8 @@ public final class HostBoundsTest {
     due("no scenes", p.many(0), 0);
     due("no truth", p.state(6), 0);
     due("the first number", p.scene(2, 0, 0, 0), 0);
-    Bounds.refused("keep changes nothing but what is kept", 1, () -> {
-      PlayedTruth q = Bounds.usual();
+    refused("keep changes nothing but what is kept", 1, () -> {
+      PlayedTruth q = usual();
       q.keep();
       return q;
     }, PlayedTruth::keep);
@@ -681,7 +670,7 @@ public final class HostBoundsTest {
 
   private static void keptAndNot() {
     says(52, "It becomes what was kept latest (which stays): how many SCENES.");
-    PlayedTruth p = Bounds.full();
+    PlayedTruth p = full();
     p.night();
     p.lot();
     p.place(5, 0, 9);
@@ -711,6 +700,25 @@ public final class HostBoundsTest {
     due("sheets", p.item(3, 4, 1), 1);
     due("shelves", p.taken(0, 14), 2);
     due("the trace", p.many(6), 1);
+  }
+
+  private static void keptReports() {
+    says(51, "All but THE TAPE, ROWS, SHEETS, SHELVES, THE TRACE is kept: 1.");
+    int[][] others = {{0, 1, 5, 20}, {1, 0, 5, 20}, {1, 1, 18, 20}, {1, 1, 5, 9}};
+    for (int[] other : others) {
+      PlayedTruth p = new PlayedTruth();
+      p.report(1, 1, 5, 20);
+      int fits = p.lone(0);
+      p.keep();
+      p.forget();
+      p.report(other[0], other[1], other[2], other[3]);
+      due("another report, others fit", p.lone(0) == fits ? 1 : 0, 0);
+      p.again();
+      due("the report that was kept", p.lone(0), fits);
+      p.forget();
+      p.again();
+      due("the report that was kept, and none ahead", p.lone(0), fits);
+    }
   }
 
   /** Changes all that there is. */

@@ -1,8 +1,5 @@
 /** The boundary cases of promises 14 to 22: nights, when it is true, props, strands, billings. */
-public final class NightsBoundsTest {
-  private static final int BAD = Bounds.BAD, NONE = Bounds.NONE, STATE = Bounds.STATE;
-  private static final int LEAST = Bounds.LEAST, MOST = Bounds.MOST;
-
+public final class NightsBoundsTest extends Bounds {
   public static void main(String[] args) {
     nightIsOver();
     nightNobody();
@@ -24,23 +21,7 @@ public final class NightsBoundsTest {
     billing();
     billingEnds();
     askedChangesNothing();
-    Bounds.end("NightsBoundsTest", Bounds.promises(14, 22));
-  }
-
-  private static void says(int promise, String words) {
-    Bounds.says(promise, words);
-  }
-
-  private static void due(String call, int got, int want) {
-    Bounds.due(call, got, want);
-  }
-
-  private static void refused(String call, int want, Bounds.Setting setting, Bounds.Call made) {
-    Bounds.refused(call, want, setting, made);
-  }
-
-  private static void refusedEverywhere(String call, int want, Bounds.Call made) {
-    Bounds.refusedEverywhere(call, want, made);
+    end("NightsBoundsTest", promises(14, 22));
   }
 
   /** Scenes of these kinds and truths, in the places 0, 2, 4, 0, 2, 4: none next to another's; pretty 0, in house 9. */
@@ -69,7 +50,7 @@ public final class NightsBoundsTest {
       due("night " + end + " of " + end, p.night(), STATE);
       due("state(0)", p.state(0), end);
     }
-    PlayedTruth p = Bounds.over();
+    PlayedTruth p = over();
     p.ends(3);
     due("one more", p.night() > 0 ? 1 : 0, 1);
     due("and over again", p.night(), STATE);
@@ -228,7 +209,7 @@ public final class NightsBoundsTest {
     due("in light", p.night(), 3 + 9);
     due("score", p.state(2), 28);
     says(14, "A NIGHT goes by as in THE REST: what it was WORTH.");
-    PlayedTruth q = Bounds.usual();
+    PlayedTruth q = usual();
     int on = q.on(1);
     due("as on(1)", q.night(), on);
   }
@@ -310,8 +291,8 @@ public final class NightsBoundsTest {
     refused("prettyFor(0) of none", BAD, PlayedTruth::new, p -> p.prettyFor(0));
     due("the most", some(2, 0).prettyFor(0), 9);
     due("all as good: the least", some(1, 0).prettyFor(0), 0);
-    due("over: the least", Bounds.over().prettyFor(1), 0);
-    due("the last of six", Bounds.full().prettyFor(2), 9);
+    due("over: the least", over().prettyFor(1), 0);
+    due("the last of six", full().prettyFor(2), 9);
     PlayedTruth p = some(4, 0);
     p.ends(1);
     p.change(0, 4, 1);
@@ -340,10 +321,16 @@ public final class NightsBoundsTest {
     due("of two the least", p.placeFor(1), 0);
     p.place(4, 0, 2);
     due("the last but one", p.placeFor(1), 4);
-    due("over: the least", Bounds.over().placeFor(1), 0);
-    PlayedTruth six = Bounds.full();
+    due("over: the least", over().placeFor(1), 0);
+    PlayedTruth six = full();
     six.place(5, 0, 9);
     due("the last of six", six.placeFor(5), 5);
+    PlayedTruth poor = some(2, 99);
+    poor.change(0, 4, 1);
+    poor.ends(1);
+    due("worth 0 in all of them", poor.placeFor(0), 0);
+    poor.place(3, 0, 1);
+    due("worth 1 in one of them", poor.placeFor(0), 3);
   }
 
   private static void truth() {
@@ -492,7 +479,7 @@ public final class NightsBoundsTest {
     int[] none = {-1, 1000, LEAST, MOST};
     for (int v : none) refusedEverywhere("billing(" + v + ")", BAD, p -> p.billing(v));
     due("billing(0) of none", new PlayedTruth().billing(0), 0);
-    due("billing(0) of five", Bounds.usual().billing(0), 0);
+    due("billing(0) of five", usual().billing(0), 0);
     says(22, "NONE: all draw less.");
     refused("billing(1) of none", NONE, PlayedTruth::new, p -> p.billing(1));
     refused("billing(999)", NONE, Bounds::full, p -> p.billing(999));
@@ -505,13 +492,13 @@ public final class NightsBoundsTest {
 
   private static void askedChangesNothing() {
     says(15, "What is asked changes nothing, if not told.");
-    Bounds.refused("on", Bounds.usual().on(16), Bounds::usual, p -> p.on(16));
-    Bounds.refused("when", Bounds.usual().when(1), Bounds::usual, p -> p.when(1));
-    Bounds.refused("prettyFor", Bounds.usual().prettyFor(1), Bounds::usual, p -> p.prettyFor(1));
-    Bounds.refused("placeFor", Bounds.usual().placeFor(1), Bounds::usual, p -> p.placeFor(1));
-    Bounds.refused("truth", Bounds.usual().truth(250), Bounds::usual, p -> p.truth(250));
-    Bounds.refused("props", Bounds.usual().props(1), Bounds::usual, p -> p.props(1));
-    Bounds.refused("strands", Bounds.usual().strands(-1), Bounds::usual, p -> p.strands(-1));
-    Bounds.refused("billing", Bounds.usual().billing(40), Bounds::usual, p -> p.billing(40));
+    refused("on", usual().on(16), Bounds::usual, p -> p.on(16));
+    refused("when", usual().when(1), Bounds::usual, p -> p.when(1));
+    refused("prettyFor", usual().prettyFor(1), Bounds::usual, p -> p.prettyFor(1));
+    refused("placeFor", usual().placeFor(1), Bounds::usual, p -> p.placeFor(1));
+    refused("truth", usual().truth(250), Bounds::usual, p -> p.truth(250));
+    refused("props", usual().props(1), Bounds::usual, p -> p.props(1));
+    refused("strands", usual().strands(-1), Bounds::usual, p -> p.strands(-1));
+    refused("billing", usual().billing(40), Bounds::usual, p -> p.billing(40));
   }
 }

@@ -1,8 +1,5 @@
 /** The boundary cases of promises 23 to 29 and 37 to 40: plans, bills, bars, the game, rows and who reads them. */
-public final class PlansBoundsTest {
-  private static final int BAD = Bounds.BAD, NONE = Bounds.NONE, NO_ROW = Bounds.NO_ROW;
-  private static final int LEAST = Bounds.LEAST, MOST = Bounds.MOST;
-
+public final class PlansBoundsTest extends Bounds {
   public static void main(String[] args) {
     lengths();
     best();
@@ -21,23 +18,7 @@ public final class PlansBoundsTest {
     judgeOver();
     judgeActs();
     askedChangesNothing();
-    Bounds.end("PlansBoundsTest", 23, 24, 25, 26, 27, 28, 29, 37, 38, 39, 40);
-  }
-
-  private static void says(int promise, String words) {
-    Bounds.says(promise, words);
-  }
-
-  private static void due(String call, int got, int want) {
-    Bounds.due(call, got, want);
-  }
-
-  private static void refused(String call, int want, Bounds.Setting setting, Bounds.Call made) {
-    Bounds.refused(call, want, setting, made);
-  }
-
-  private static void refusedEverywhere(String call, int want, Bounds.Call made) {
-    Bounds.refusedEverywhere(call, want, made);
+    end("PlansBoundsTest", 23, 24, 25, 26, 27, 28, 29, 37, 38, 39, 40);
   }
 
   /** Trials that are kept: whatever is told, each draws 9 a night. */
@@ -58,7 +39,7 @@ public final class PlansBoundsTest {
   }
 
   /** These two behind the only night that there is; the trial is settled by it. */
-  private static PlayedTruth over() {
+  private static PlayedTruth twoOver() {
     PlayedTruth p = two();
     p.ends(1);
     p.night();
@@ -91,7 +72,7 @@ public final class PlansBoundsTest {
     refusedEverywhere("game(0)", BAD, p -> p.game(0));
     says(29, "of several the first named: BAD (-1)");
     refusedEverywhere("play(0)", BAD, p -> p.play(0));
-    refused("play(5), over", BAD, PlansBoundsTest::over, p -> p.play(5));
+    refused("play(5), over", BAD, PlansBoundsTest::twoOver, p -> p.play(5));
   }
 
   private static void best() {
@@ -140,9 +121,17 @@ public final class PlansBoundsTest {
     }
     for (int i = 0; i <= 3; i++) {
       int at = i;
-      refused("ith(4, " + i + "), over", NONE, PlansBoundsTest::over, p -> p.ith(4, at));
+      refused("ith(4, " + i + "), over", NONE, PlansBoundsTest::twoOver, p -> p.ith(4, at));
     }
     says(24, "the FIRST of these is that with the lesser ACT where they are unlike first.");
+    PlayedTruth poor = new PlayedTruth();
+    poor.scene(2, 59, 0, 0);
+    due("first the duet is worth telling", poor.ith(1, 0), 1);
+    poor.change(0, 1, 99);
+    poor.change(0, 4, 1);
+    due("then all plans are worth 0", poor.best(4), 0);
+    for (int i = 0; i <= 3; i++) due("so the first is: ith(4, " + i + ")", poor.ith(4, i), 0);
+    due("all are best", poor.ways(4), 16);
     PlayedTruth all = kept(6, 16);
     for (int i = 0; i <= 3; i++) due("all are best: ith(4, " + i + ")", all.ith(4, i), 0);
     Check.tell(all, "scene if night < 3 keep; scene if number < 3 keep; scene if number > 4 keep;");
@@ -161,7 +150,7 @@ public final class PlansBoundsTest {
       }
     }
     due("two nights left", kept(6, 2).ways(4), 49);
-    due("over", over().ways(4), 1);
+    due("over", twoOver().ways(4), 1);
     PlayedTruth p = kept(6, 16);
     Check.tell(p, "scene if night < 3 keep; scene if number < 3 keep; scene if number > 4 keep;");
     due("three nights of 7, then 2", p.ways(4), 343 * 2);
@@ -208,10 +197,10 @@ public final class PlansBoundsTest {
     p.change(1, 4, 1);
     due("settled now: 0 acts", p.bill(0, 2), 0);
     due("settled now: 0 acts", p.bill(4, 2), 0);
-    due("settled now, over", over().bill(4, 1), 0);
+    due("settled now, over", twoOver().bill(4, 1), 0);
     says(26, "BAD; NONE.");
     refused("the crowd, by 2", NONE, PlansBoundsTest::two, q -> q.bill(2, 2));
-    refused("the crowd, over", NONE, PlansBoundsTest::over, q -> q.bill(4, 2));
+    refused("the crowd, over", NONE, PlansBoundsTest::twoOver, q -> q.bill(4, 2));
     PlayedTruth four = new PlayedTruth();
     for (int k = 0; k < 6; k++) four.scene(1, 55, 0, 0);
     due("four of six by four", four.bill(4, 4 | 8 | 16 | 32), 4);
@@ -228,7 +217,7 @@ public final class PlansBoundsTest {
       due("the crowd, by " + n, p.bars(n, 2), n >= 3 ? NONE : 1);
       due("both, by " + n, p.bars(n, 3), n >= 3 ? NONE : n >= 1 ? 1 : 0);
     }
-    due("over: the trial is settled now", over().bars(4, 3), 1);
+    due("over: the trial is settled now", twoOver().bars(4, 3), 1);
     says(27, "NONE: each is so behind some.");
     refused("each by a plan of its own", NONE, PlansBoundsTest::two, q -> q.bars(3, 3));
     PlayedTruth six = new PlayedTruth();
@@ -267,8 +256,8 @@ public final class PlansBoundsTest {
       PlayedTruth p = kept(3, end);
       for (int n = 1; n <= 4; n++) due("game(" + n + ") of " + end, p.game(n), 27 * Math.min(n, end));
     }
-    due("over", over().game(4), 0);
-    due("over", over().game(1), 0);
+    due("over", twoOver().game(4), 0);
+    due("over", twoOver().game(1), 0);
     PlayedTruth one = new PlayedTruth();
     one.scene(1, 0, 0, 0);
     one.ends(3);
@@ -350,7 +339,7 @@ public final class PlansBoundsTest {
     }
     refused("row(4, 0) of four", NO_ROW, Bounds::full, q -> q.row(4, 0));
     refused("row(0, 0) of none", NO_ROW, PlayedTruth::new, q -> q.row(0, 0));
-    due("row(3, 2) of four", Bounds.full().row(3, 2) >= 0 ? 1 : 0, 1);
+    due("row(3, 2) of four", full().row(3, 2) >= 0 ? 1 : 0, 1);
   }
 
   private static void alterRow() {
@@ -387,7 +376,7 @@ public final class PlansBoundsTest {
   private static void judge() {
     says(40, "0 all is right; else the first ROW that isn't, and 1 more.");
     due("no rows", new PlayedTruth().judge(), 0);
-    due("no rows, over", over().judge(), 0);
+    due("no rows, over", twoOver().judge(), 0);
     for (int n = 0; n <= 4; n++) {
       PlayedTruth p = two();
       p.prove(n);
@@ -465,11 +454,11 @@ public final class PlansBoundsTest {
     refused("ways", 1, PlansBoundsTest::two, p -> p.ways(1));
     refused("bill", 3, PlansBoundsTest::two, p -> p.bill(4, 2));
     refused("bars", 1, PlansBoundsTest::two, p -> p.bars(2, 2));
-    refused("game", Bounds.usual().game(4), Bounds::usual, p -> p.game(4));
-    refused("play", Bounds.usual().play(4), Bounds::usual, p -> p.play(4));
-    refused("judge", Bounds.usual().judge(), Bounds::usual, PlayedTruth::judge);
-    refused("row", Bounds.usual().row(1, 1), Bounds::usual, p -> p.row(1, 1));
-    PlayedTruth p = Bounds.usual();
+    refused("game", usual().game(4), Bounds::usual, p -> p.game(4));
+    refused("play", usual().play(4), Bounds::usual, p -> p.play(4));
+    refused("judge", usual().judge(), Bounds::usual, PlayedTruth::judge);
+    refused("row", usual().row(1, 1), Bounds::usual, p -> p.row(1, 1));
+    PlayedTruth p = usual();
     int night = p.state(0);
     int truth = p.state(6);
     p.prove(4);

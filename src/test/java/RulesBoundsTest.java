@@ -1,7 +1,5 @@
 /** The boundary cases of promises 12 and 13: the tape, the text, where its fault is, what its rules tell. */
-public final class RulesBoundsTest {
-  private static final int BAD = Bounds.BAD, FULL = Bounds.FULL;
-  private static final int LEAST = Bounds.LEAST, MOST = Bounds.MOST;
+public final class RulesBoundsTest extends Bounds {
   private static final String[] KINDS = {"scene", "trial", "duet", "sunset", "crowd", "match"};
 
   public static void main(String[] args) {
@@ -25,16 +23,10 @@ public final class RulesBoundsTest {
     wholeTape();
     signs();
     factsAtTheirEnds();
+    truthTables();
+    threeBracketsDeep();
     firstThatTells();
-    Bounds.end("RulesBoundsTest", Bounds.promises(12, 13));
-  }
-
-  private static void says(int promise, String words) {
-    Bounds.says(promise, words);
-  }
-
-  private static void due(String call, int got, int want) {
-    Bounds.due(call, got, want);
+    end("RulesBoundsTest", promises(12, 13));
   }
 
   private static int tell(String text) {
@@ -56,8 +48,8 @@ public final class RulesBoundsTest {
     says(12, "n bytes (1 to 8) come to THE TAPE");
     int[] none = {-1, 0, 9, 16, 201, LEAST, MOST};
     for (int n : none) {
-      Bounds.refusedEverywhere("feed(0, " + n + ")", BAD, p -> p.feed(0, n));
-      Bounds.refusedEverywhere("feed(-1, " + n + ")", BAD, p -> p.feed(-1L, n));
+      refusedEverywhere("feed(0, " + n + ")", BAD, p -> p.feed(0, n));
+      refusedEverywhere("feed(-1, " + n + ")", BAD, p -> p.feed(-1L, n));
     }
     for (int n = 1; n <= 8; n++) {
       PlayedTruth p = new PlayedTruth();
@@ -90,20 +82,20 @@ public final class RulesBoundsTest {
     says(12, "FULL: more than 200.");
     for (int n = 1; n <= 8; n++) {
       int count = n;
-      Bounds.refused("feed of " + n + " on 200", FULL, Bounds::full, p -> p.feed(0, count));
+      refused("feed of " + n + " on 200", FULL, Bounds::full, p -> p.feed(0, count));
       PlayedTruth p = new PlayedTruth();
       Check.feed(p, " ".repeat(200 - n));
       due("just 200 by " + n, p.feed(0x2020202020202020L, n), 200);
       if (n == 8) continue;
-      Bounds.refused("feed of " + (n + 1) + " on " + (200 - n), FULL, () -> {
+      refused("feed of " + (n + 1) + " on " + (200 - n), FULL, () -> {
         PlayedTruth q = new PlayedTruth();
         Check.feed(q, "duet keep;" + " ".repeat(190 - count));
         return q;
       }, q -> q.feed(0, count + 1));
     }
     says(12, "of several the first named: BAD (-1)");
-    Bounds.refused("feed of 9 on 200", BAD, Bounds::full, p -> p.feed(0, 9));
-    Bounds.refused("feed of 0 on 200", BAD, Bounds::full, p -> p.feed(0, 0));
+    refused("feed of 9 on 200", BAD, Bounds::full, p -> p.feed(0, 9));
+    refused("feed of 0 on 200", BAD, Bounds::full, p -> p.feed(0, 0));
   }
 
   // ---- what a text does
@@ -122,6 +114,10 @@ public final class RulesBoundsTest {
     due("a fault", p.rules(), -105);
     due("no bytes", p.many(5), 0);
     due("the next text starts at 0", Check.tell(p, "duet !"), -105);
+    due("five digits", Check.tell(p, "duet if 1=12345"), -110);
+    due("four: what stood behind them ahead is gone", Check.tell(p, "duet if 1=1234"), -114);
+    due("a longer name", Check.tell(p, "duet keeper;"), -105);
+    due("a name: what stood behind it ahead is gone", Check.tell(p, "duet keep"), -109);
     Check.feed(p, "X".repeat(200));
     due("a fault in 200 bytes", p.rules(), -100);
     due("there is room again", p.feed(0, 8), 8);
@@ -152,13 +148,13 @@ public final class RulesBoundsTest {
     String[] wrong = {"!", "scene keep; scene", "scene trim; scene keep; match mend; duet if", "scene keep;".repeat(9),
         "scene if 12345 = 1 keep;", "scene if ((((1=1)))) keep;"};
     for (String text : wrong) {
-      PlayedTruth p = Bounds.usual();
-      PlayedTruth q = Bounds.usual();
+      PlayedTruth p = usual();
+      PlayedTruth q = usual();
       p.rules();
       q.rules();
       due("a fault in " + text, Check.tell(p, text) <= -100 ? 1 : 0, 1);
-      String with = String.join(", ", Bounds.read(p));
-      String without = String.join(", ", Bounds.read(q));
+      String with = String.join(", ", read(p));
+      String without = String.join(", ", read(q));
       due("all but the tape is as it was, by " + text, with.equals(without) ? 1 : 0, 1);
     }
   }
@@ -367,6 +363,10 @@ public final class RulesBoundsTest {
     due("will", p.sceneOf(0, 9), 0);
     due("signs enough", Check.tell(p, "trial if" + "(1<2)and".repeat(22) + "1>2trim;"), 1);
     due("will", p.sceneOf(0, 9), 0);
+    due("a number is the last of 200 bytes", tell("duet if 1" + " ".repeat(187) + "=999"), -300);
+    due("five digits are the last of 200 bytes", tell("duet if 1" + " ".repeat(185) + "=99999"), -295);
+    due("a name is the last of 200 bytes", tell("duet if 1" + " ".repeat(185) + "=truth"), -300);
+    due("half a name is the last of 200 bytes", tell("duet if 1" + " ".repeat(187) + "=tru"), -297);
     due("200 bytes without a blank", tell("duet if" + "1=1or".repeat(37) + "1=1keep;"), 1);
     due("200 bytes without a blank", "duet if".length() + 5 * 37 + "1=1keep;".length(), 200);
   }
@@ -414,6 +414,10 @@ public final class RulesBoundsTest {
     due("night 15", will(p, 0, "night = 15 and rail = 3"), 1);
     p.night();
     due("night 16, no rail", will(p, 0, "night = 16 and rail = 0"), 1);
+    p.change(5, 1, 99);
+    due("facts on both sides", will(p, 5, "truth > pretty and pretty > number and number < night"), 1);
+    due("facts on both sides", will(p, 5, "truth < pretty or pretty = number or rail > night"), 0);
+    due("a fact on the right", will(p, 5, "99 = truth and 9 = pretty and 16 = night and 0 = rail and 5 = number"), 1);
     due("a number no fact comes to", will(p, 5, "truth < 9999 and night < 17"), 1);
     says(13, "the NIGHT that goes by");
     PlayedTruth q = new PlayedTruth();
@@ -422,6 +426,46 @@ public final class RulesBoundsTest {
     q.house(1, 4);
     due("kept in the first night: it draws alone", q.night(), 9);
     due("mended in the second", q.night(), 8 + 9);
+  }
+
+  /** What holds and what doesn't, as a comparison. */
+  private static String told(boolean isSo) {
+    return isSo ? "3 > 2" : "2 > 3";
+  }
+
+  private static void truthTables() {
+    says(13, "COND: ALL { or ALL } ALL: ONE { and ONE } ONE: { not } ( VALUE SIGN VALUE | \"(\" COND \")\" )");
+    PlayedTruth p = new PlayedTruth();
+    p.scene(1, 0, 0, 0);
+    for (int bits = 0; bits < 8; bits++) {
+      boolean a = (bits & 1) != 0;
+      boolean b = (bits & 2) != 0;
+      boolean c = (bits & 4) != 0;
+      String[] conds = {"A", "not A", "not not A", "A and B", "A or B", "not A and B", "not A or B", "not (A and B)",
+          "not (A or B)", "A or B and C", "A and B or C", "(A or B) and C", "A and (B or C)", "A and B and C", "A or B or C",
+          "A or not B and not C", "not (not A and not B) and C", "A and not (B or C)"};
+      boolean[] want = {a, !a, a, a && b, a || b, !a && b, !a || b, !(a && b), !(a || b), a || b && c, a && b || c,
+          (a || b) && c, a && (b || c), a && b && c, a || b || c, a || !b && !c, (a || b) && c, a && !(b || c)};
+      for (int i = 0; i < conds.length; i++) {
+        String cond = conds[i].replace("A", told(a)).replace("B", told(b)).replace("C", told(c));
+        due(cond, will(p, 0, cond), want[i] ? 1 : 0);
+      }
+    }
+  }
+
+  private static void threeBracketsDeep() {
+    says(13, "At most 3 \"(\" are open within one another.");
+    PlayedTruth p = new PlayedTruth();
+    p.scene(1, 0, 0, 0);
+    for (int bits = 0; bits < 128; bits++) {
+      boolean[] is = new boolean[7];
+      for (int i = 0; i < 7; i++) is[i] = (bits >> i & 1) != 0;
+      String cond = "A or B and (C or D and (E or F and (G or A and B)))";
+      for (int i = 0; i < 7; i++) cond = cond.replace(String.valueOf((char) ('A' + i)), told(is[i]).replace(" ", ""));
+      boolean inmost = is[6] || is[0] && is[1];
+      boolean want = is[0] || is[1] && (is[2] || is[3] && (is[4] || is[5] && inmost));
+      due(cond, will(p, 0, cond), want ? 1 : 0);
+    }
   }
 
   private static void firstThatTells() {
@@ -436,6 +480,8 @@ public final class RulesBoundsTest {
         due("a rule of " + told + " ahead of all, " + KINDS[kind], p.sceneOf(0, 9), isTold ? 2 : 1);
         Check.tell(p, told + " if truth = 8 trim;" + told + " if truth = 7 keep;" + told + " trim;");
         due("the second that holds of " + told + ", " + KINDS[kind], p.sceneOf(0, 9), isTold ? 1 : 0);
+        Check.tell(p, told + " if truth = 8 keep;" + told + " trim;");
+        due("one without a condition behind one that doesn't hold", p.sceneOf(0, 9), isTold ? 2 : 0);
       }
     }
   }

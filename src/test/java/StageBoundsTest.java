@@ -1,8 +1,5 @@
 /** The boundary cases of promises 1 to 11: the stage, its scenes, what they learn and draw. */
-public final class StageBoundsTest {
-  private static final int BAD = Bounds.BAD, FULL = Bounds.FULL, NONE = Bounds.NONE, STATE = Bounds.STATE;
-  private static final int LEAST = Bounds.LEAST, MOST = Bounds.MOST;
-
+public final class StageBoundsTest extends Bounds {
   public static void main(String[] args) {
     aNewObject();
     atFirst();
@@ -26,23 +23,7 @@ public final class StageBoundsTest {
     ends();
     anew();
     state();
-    Bounds.end("StageBoundsTest", Bounds.promises(1, 11));
-  }
-
-  private static void says(int promise, String words) {
-    Bounds.says(promise, words);
-  }
-
-  private static void due(String call, int got, int want) {
-    Bounds.due(call, got, want);
-  }
-
-  private static void refused(String call, int want, Bounds.Setting setting, Bounds.Call made) {
-    Bounds.refused(call, want, setting, made);
-  }
-
-  private static void refusedEverywhere(String call, int want, Bounds.Call made) {
-    Bounds.refusedEverywhere(call, want, made);
+    end("StageBoundsTest", promises(1, 11));
   }
 
   /** One scene of a kind in place 3, in a night whose house is told. */
@@ -103,14 +84,14 @@ public final class StageBoundsTest {
     says(1, "z (an int; 1 at first)");
     due("seed(0)", p.seed(0), 1);
     says(1, "40 at most, or missing (at first)");
-    for (int sheet = 0; sheet < 4; sheet++) due("item(" + sheet + ", 0, 0)", p.item(sheet, 0, 0), Bounds.NOTHING);
+    for (int sheet = 0; sheet < 4; sheet++) due("item(" + sheet + ", 0, 0)", p.item(sheet, 0, 0), NOTHING);
     says(1, "a SHEET's row, or nothing (at first)");
-    for (int shelf = 0; shelf < 4; shelf++) due("taken(" + shelf + ", 0)", p.taken(shelf, 0), Bounds.NOTHING);
+    for (int shelf = 0; shelf < 4; shelf++) due("taken(" + shelf + ", 0)", p.taken(shelf, 0), NOTHING);
     says(1, "THE TAPE takes bytes, 200 at most; rules() uses it up.");
     due("many(5)", p.many(5), 0);
-    says(1, "right is one whose ACT is one");
+    says(1, "ROWS of the FIRST of the BEST PLANS");
     due("many(4), no rows", p.many(4), 0);
-    due("row(0, 0)", p.row(0, 0), Bounds.NO_ROW);
+    due("row(0, 0)", p.row(0, 0), NO_ROW);
     due("judge()", p.judge(), 0);
     says(1, "numbers of the bodies that ran in the latest act()");
     due("many(6)", p.many(6), 0);
@@ -205,7 +186,7 @@ public final class StageBoundsTest {
     }
     refused("sceneOf(0, 0) of none", BAD, PlayedTruth::new, p -> p.sceneOf(0, 0));
     refused("sceneOf(5, 4) of five", BAD, Bounds::usual, p -> p.sceneOf(5, 4));
-    PlayedTruth p = Bounds.full();
+    PlayedTruth p = full();
     int[] last = {1, 45, 5, 5, 1, 16 + 4 + 0 - 0, 9, 0, 0, 0};
     for (int what = 0; what <= 9; what++) due("sceneOf(5, " + what + ") of six", p.sceneOf(5, what), last[what]);
     due("sceneOf(0, 0) of six", p.sceneOf(0, 0), 1);
@@ -380,7 +361,7 @@ public final class StageBoundsTest {
     int[] most = {0, 99, 9, 5, 1};
     for (int what = 1; what <= 4; what++) {
       int w = what;
-      PlayedTruth p = Bounds.full();
+      PlayedTruth p = full();
       int was = p.sceneOf(5, what);
       due("change(5, " + what + ", " + most[what] + ")", p.change(5, what, most[what]), was);
       due("is so", p.sceneOf(5, what), most[what]);
@@ -421,7 +402,7 @@ public final class StageBoundsTest {
 
   private static void remake() {
     says(5, "A SCENE becomes one of another KIND (1 to 5): the KIND that it was.");
-    PlayedTruth p = Bounds.full();
+    PlayedTruth p = full();
     due("remake(5, 5)", p.remake(5, 5), 1);
     due("is so", p.sceneOf(5, 0), 5);
     due("remake(5, 1)", p.remake(5, 1), 5);
@@ -455,7 +436,7 @@ public final class StageBoundsTest {
       refusedEverywhere("house(0, " + v + ")", BAD, q -> q.house(0, v));
       refusedEverywhere("house(15, " + v + ")", BAD, q -> q.house(15, v));
     }
-    due("of a night that is gone", Bounds.over().house(1, 0), 14);
+    due("of a night that is gone", over().house(1, 0), 14);
   }
 
   private static void place() {
@@ -518,7 +499,7 @@ public final class StageBoundsTest {
     refused("ends(1) at night 2", STATE, Bounds::usual, q -> q.ends(1));
     refused("ends(1) at night 2, over", STATE, Bounds::over, q -> q.ends(1));
     refused("ends(15) at night 16", STATE, () -> atNight(16), q -> q.ends(15));
-    due("ends(2) at night 2", Bounds.usual().ends(2), 9);
+    due("ends(2) at night 2", usual().ends(2), 9);
     due("ends(16) at night 16", atNight(16).ends(16), 16);
     due("ends(1) at night 1", atNight(1).ends(1), 16);
     says(9, "of several the first named: BAD (-1)");

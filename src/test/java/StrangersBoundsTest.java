@@ -1,8 +1,5 @@
 /** The boundary cases of promises 30 to 36: reports, lone scenes, the liar, nights by lot. */
-public final class StrangersBoundsTest {
-  private static final int BAD = Bounds.BAD, FULL = Bounds.FULL, NONE = Bounds.NONE, STATE = Bounds.STATE;
-  private static final int LEAST = Bounds.LEAST, MOST = Bounds.MOST;
-
+public final class StrangersBoundsTest extends Bounds {
   public static void main(String[] args) {
     reportRanges();
     reportMostBelowLeast();
@@ -23,23 +20,7 @@ public final class StrangersBoundsTest {
     timesWorth();
     timesSeed();
     askedChangesNothing();
-    Bounds.end("StrangersBoundsTest", Bounds.promises(30, 36));
-  }
-
-  private static void says(int promise, String words) {
-    Bounds.says(promise, words);
-  }
-
-  private static void due(String call, int got, int want) {
-    Bounds.due(call, got, want);
-  }
-
-  private static void refused(String call, int want, Bounds.Setting setting, Bounds.Call made) {
-    Bounds.refused(call, want, setting, made);
-  }
-
-  private static void refusedEverywhere(String call, int want, Bounds.Call made) {
-    Bounds.refusedEverywhere(call, want, made);
+    end("StrangersBoundsTest", promises(30, 36));
   }
 
   /** How many lone scenes fit these reports (four numbers each), by houses that are all the same. */
@@ -116,7 +97,7 @@ public final class StrangersBoundsTest {
   private static void forget() {
     says(31, "There are no REPORTS: how many there were.");
     due("none", new PlayedTruth().forget(), 0);
-    PlayedTruth p = Bounds.full();
+    PlayedTruth p = full();
     due("six", p.forget(), 6);
     due("none any more", p.forget(), 0);
     due("many(3)", p.many(3), 0);
@@ -133,8 +114,8 @@ public final class StrangersBoundsTest {
     for (int what : none) refusedEverywhere("lone(" + what + ")", BAD, p -> p.lone(what));
     due("no reports: all", new PlayedTruth().lone(0), 500);
     says(32, "NONE (of 1, 2, 3): there are none.");
-    Bounds.Setting nobody = () -> {
-      PlayedTruth p = Bounds.usual();
+    Setting nobody = () -> {
+      PlayedTruth p = usual();
       p.report(0, 0, 55, 99);
       return p;
     };
@@ -262,11 +243,19 @@ public final class StrangersBoundsTest {
     refused("no reports", NONE, PlayedTruth::new, PlayedTruth::liar);
     refused("some fit", NONE, Bounds::usual, PlayedTruth::liar);
     refused("two are wrong", NONE, () -> {
-      PlayedTruth p = Bounds.usual();
+      PlayedTruth p = usual();
       p.report(0, 0, 55, 99);
       p.report(0, 1, 1, 1);
       return p;
     }, PlayedTruth::liar);
+    PlayedTruth single = new PlayedTruth();
+    single.house(0, 0);
+    single.report(0, 0, 0, 0);
+    single.report(1, 1, 10, 10);
+    due("one fits alone", single.lone(0), 1);
+    due("so there is none", single.liar(), NONE);
+    single.report(0, 1, 0, 0);
+    due("so there is none", single.liar(), NONE);
     says(33, "if none FITS, the least REPORT but for which some would.");
     PlayedTruth one = new PlayedTruth();
     one.report(0, 0, 55, 99);
@@ -285,6 +274,15 @@ public final class StrangersBoundsTest {
     due("one against two", pair.liar(), 1);
     pair.report(0, 0, 0, 0);
     due("two against two", pair.liar(), NONE);
+    PlayedTruth turned = new PlayedTruth();
+    turned.report(0, 0, 6, 6);
+    turned.report(0, 0, 0, 0);
+    due("either of two, in another order: the least", turned.liar(), 0);
+    turned.forget();
+    turned.report(0, 0, 54, 54);
+    turned.report(0, 0, 0, 99);
+    turned.report(0, 0, 0, 53);
+    due("either of two apart: the least", turned.liar(), 0);
   }
 
   // ---- lots
@@ -411,16 +409,16 @@ public final class StrangersBoundsTest {
 
   private static void askedChangesNothing() {
     says(36, "(all is as it was in the end, z, too)");
-    refused("times", Bounds.usual().times(40, 400), Bounds::usual, p -> p.times(40, 400));
-    refused("times, full", Bounds.full().times(40, 400), Bounds::full, p -> p.times(40, 400));
+    refused("times", usual().times(40, 400), Bounds::usual, p -> p.times(40, 400));
+    refused("times, full", full().times(40, 400), Bounds::full, p -> p.times(40, 400));
     says(32, "What is asked changes nothing, if not told.");
     for (int what = 0; what <= 3; what++) {
       int w = what;
-      refused("lone(" + what + ")", Bounds.usual().lone(w), Bounds::usual, p -> p.lone(w));
+      refused("lone(" + what + ")", usual().lone(w), Bounds::usual, p -> p.lone(w));
     }
     says(33, "What is asked changes nothing, if not told.");
     refused("liar", 2, () -> {
-      PlayedTruth p = Bounds.usual();
+      PlayedTruth p = usual();
       p.report(0, 0, 55, 99);
       return p;
     }, PlayedTruth::liar);
