@@ -29,9 +29,12 @@ abstract class Bounds {
   private static final TreeSet<Integer> NAMED = new TreeSet<>();
   private static String sentence = "";
 
+  /** Empty if the document isn't there: then the cases are looked at all the same, but not the quotations. */
   private static String document() {
+    Path path = Path.of("../shared/DOC.md");
+    if (!Files.exists(path)) return "";
     try {
-      return Files.readString(Path.of("../shared/DOC.md")).replaceAll("\\s+", " ");
+      return Files.readString(path).replaceAll("\\s+", " ");
     } catch (IOException e) {
       throw new UncheckedIOException(e);
     }
@@ -41,11 +44,13 @@ abstract class Bounds {
   static void says(int promise, String words) {
     NAMED.add(promise);
     sentence = promise + " '" + words + "'";
+    if (!DOC.isEmpty()) Check.due(sentence + " stands in the document", isQuoted(promise, words) ? 1 : 0, 1);
+  }
+
+  private static boolean isQuoted(int promise, String words) {
     int from = DOC.indexOf("## Promise " + promise + ":");
     int to = promise == LAST_PROMISE ? DOC.indexOf("## Not promised") : DOC.indexOf("## Promise " + (promise + 1) + ":");
-    boolean isThere = DOC.substring(from, to).contains(words)
-        || DOC.substring(0, DOC.indexOf("## Promise 1:")).contains(words);
-    Check.due(sentence + " stands in the document", isThere ? 1 : 0, 1);
+    return DOC.substring(from, to).contains(words) || DOC.substring(0, DOC.indexOf("## Promise 1:")).contains(words);
   }
 
   static void due(String call, int got, int want) {
@@ -90,6 +95,12 @@ abstract class Bounds {
 
   /** Five scenes at night 2, the first settled, and something of all that an object can hold. */
   static PlayedTruth usual() {
+    PlayedTruth p = usualWithoutTape();
+    Check.feed(p, "duet kee");
+    return p;
+  }
+
+  static PlayedTruth usualWithoutTape() {
     PlayedTruth p = new PlayedTruth();
     p.place(0, 0, 1);
     p.place(1, 1, 2);
@@ -122,7 +133,6 @@ abstract class Bounds {
     p.shelf(1, 1, 1);
     p.shelf(3, 0, 1);
     p.act(0, 3, 7);
-    Check.feed(p, "duet kee");
     return p;
   }
 

@@ -146,17 +146,14 @@ public final class RulesBoundsTest extends Bounds {
   private static void refusedTextChangesNothing() {
     says(13, "such a call changes nothing (but that THE TAPE is used up by rules())");
     String[] wrong = {"!", "scene keep; scene", "scene trim; scene keep; match mend; duet if", "scene keep;".repeat(9),
-        "scene if 12345 = 1 keep;", "scene if ((((1=1)))) keep;"};
-    for (String text : wrong) {
-      PlayedTruth p = usual();
-      PlayedTruth q = usual();
-      p.rules();
-      q.rules();
-      due("a fault in " + text, Check.tell(p, text) <= -100 ? 1 : 0, 1);
-      String with = String.join(", ", read(p));
-      String without = String.join(", ", read(q));
-      due("all but the tape is as it was, by " + text, with.equals(without) ? 1 : 0, 1);
+        "scene if 12345 = 1 keep;", "scene if ((((1=1)))) keep;", " ".repeat(195) + "scene"};
+    int[] faults = {0, 17, 43, 88, 9, 12, 200};
+    for (int i = 0; i < wrong.length; i++) {
+      String text = wrong[i];
+      refused("rules of " + text, -100 - faults[i], Bounds::usualWithoutTape, p -> Check.tell(p, text));
+      refused("rules of " + text + ", none ahead", -100 - faults[i], PlayedTruth::new, p -> Check.tell(p, text));
     }
+    due("the rules that there were", Bounds.usualWithoutTape().many(1), 2);
   }
 
   private static void eightRules() {
